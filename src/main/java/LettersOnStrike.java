@@ -1021,6 +1021,10 @@ public final class LettersOnStrike {
         private final Tape tape;
         private Text text;
         private int at;
+        /** The token at this place of the tape's, and its value. */
+        private int kind;
+        private int value;
+        private int start;
         private int clause;
         boolean hasRead;
         int fault;
@@ -1039,42 +1043,39 @@ public final class LettersOnStrike {
             hasRead = true;
             fault = 0;
             place = NONE;
-            at = 0;
             tape.cut();
-            for (int i = 0; i <= Tape.MOST && fault == 0 && kind() != Tape.END; i++) {
+            at = NONE;
+            next();
+            for (int i = 0; i <= Tape.MOST && fault == 0 && kind != Tape.END; i++) {
                 readClause();
             }
             return fault == 0;
         }
 
-        private int kind() {
-            return at < tape.tokens && at <= Tape.MOST ? tape.kind[at] : Tape.END;
-        }
-
-        private int value() {
-            return at < tape.tokens && at <= Tape.MOST ? tape.value[at] : NONE;
-        }
-
         private int fail(int what) {
             if (fault == 0) {
                 fault = what;
-                place = at < tape.tokens && at <= Tape.MOST ? tape.place[at] : tape.size;
+                place = start;
             }
             return 0;
         }
 
+        /** A token with a fault is never left, so nothing behind it is looked at. */
         private void next() {
-            if (fault == 0) {
+            if (fault == 0 && at + 1 >= 0 && at + 1 < tape.tokens && at < Tape.MOST) {
                 at++;
+                kind = tape.kind[at];
+                value = tape.value[at];
+                start = tape.place[at];
             }
         }
 
         private boolean isKey(int key) {
-            return kind() == Tape.LETTERS && value() == key;
+            return kind == Tape.LETTERS && value == key;
         }
 
         private boolean isSymbol(int symbol) {
-            return kind() == Tape.SYMBOL && value() == symbol;
+            return kind == Tape.SYMBOL && value == symbol;
         }
 
         private void takeKey(int key) {
@@ -1092,7 +1093,7 @@ public final class LettersOnStrike {
         }
 
         private void readClause() {
-            int what = kind() == Tape.LETTERS ? value() : NONE;
+            int what = kind == Tape.LETTERS ? value : NONE;
             if (what < 0 || what > Tape.MORNING) {
                 fail(MISPLACED);
                 return;
@@ -1108,22 +1109,18 @@ public final class LettersOnStrike {
             clause = text.clauses;
             text.begin(what);
             next();
-            if (what < Text.LAWS) {
-                readLaw(what);
-            } else {
+            if (what >= Text.LAWS) {
                 readDeed(what);
+            } else {
+                text.lawFrom[what] = text.codes;
+                if (what == Judge.PRICE) {
+                    readSum(what, 0);
+                } else {
+                    readEither(what);
+                }
+                text.lawEnd[what] = text.codes;
             }
             takeSymbol(';');
-        }
-
-        private void readLaw(int law) {
-            text.lawFrom[law] = text.codes;
-            if (law == Judge.PRICE) {
-                readSum(law, 0);
-            } else {
-                readEither(law);
-            }
-            text.lawEnd[law] = text.codes;
         }
 
         private void readDeed(int what) {
@@ -1183,7 +1180,7 @@ public final class LettersOnStrike {
         }
 
         private int takeSense(int i) {
-            boolean right = kind() == Tape.NUMBER && value() <= Lexicon.TOP_SENSE;
+            boolean right = kind == Tape.NUMBER && value <= Lexicon.TOP_SENSE;
             if (right && i >= Lexicon.MOST_SENSES) {
                 return fail(TOO_MANY_SENSES);
             }
@@ -1191,10 +1188,10 @@ public final class LettersOnStrike {
         }
 
         private int takeNumber(int least, int most) {
-            if (kind() != Tape.NUMBER) {
+            if (kind != Tape.NUMBER) {
                 return fail(MISPLACED);
             }
-            int n = value();
+            int n = value;
             if (n < least || n > most) {
                 return fail(WRONG_NUMBER);
             }
@@ -1204,13 +1201,13 @@ public final class LettersOnStrike {
 
         /** LETTERS as a set: a letter told twice counts once, but in a word each place counts. */
         private int takeLetters(boolean inWord) {
-            if (kind() != Tape.LETTERS) {
+            if (kind != Tape.LETTERS) {
                 return fail(MISPLACED);
             }
             int set = 0;
-            int n = tape.length[at];
-            for (int i = 0; i < n; i++) {
-                int letter = tape.bytes[tape.place[at] + i] - 'a';
+            int n = at >= 0 && at <= Tape.MOST ? tape.length[at] : 0;
+            for (int i = 0; i < n && start + i < tape.size; i++) {
+                int letter = tape.bytes[start + i] - 'a';
                 if (!isLetter(letter)) {
                     return fail(WRONG_LETTERS);
                 }
@@ -1271,10 +1268,10 @@ public final class LettersOnStrike {
         }
 
         private int comparison() {
-            if (kind() != Tape.SYMBOL) {
+            if (kind != Tape.SYMBOL) {
                 return NONE;
             }
-            switch (value()) {
+            switch (value) {
                 case '<': return Judge.LESS;
                 case '<' + Tape.WITH_EQUAL: return Judge.AT_MOST;
                 case '>': return Judge.MORE;
@@ -1309,9 +1306,9 @@ public final class LettersOnStrike {
             if (fault != 0) {
                 return;
             }
-            if (kind() == Tape.NUMBER) {
+            if (kind == Tape.NUMBER) {
                 text.emit(takeNumber(0, Tape.TOP_NUMBER));
-            } else if (kind() == Tape.LETTERS) {
+            } else if (kind == Tape.LETTERS) {
                 readName(law);
             } else if (!isSymbol('(') && !isSymbol('-')) {
                 fail(MISPLACED);
@@ -1329,7 +1326,7 @@ public final class LettersOnStrike {
         }
 
         private void readName(int law) {
-            int name = value() - Tape.FIRST_NAME;
+            int name = value - Tape.FIRST_NAME;
             if (name < 0 || name >= Judge.NAMES) {
                 fail(MISPLACED);
             } else if (!Judge.isNameOf(law, name)) {
@@ -1409,7 +1406,8 @@ public final class LettersOnStrike {
             Standing standing = empire.standing;
             int tied = Integer.bitCount(empire.ties[letter] & standing.out);
             int law = standing.isOut(letter) ? RETURNS : JOINS;
-            if (!rules(law)) {
+            Text text = ruling(law);
+            if (text == null) {
                 return law == RETURNS ? standing.wage[letter] > 9
                     : tied > 0 && standing.since[letter] > 0;
             }
@@ -1420,7 +1418,7 @@ public final class LettersOnStrike {
             named[VOWEL] = VOWELS >> letter & 1;
             named[TIED] = tied;
             named[USES] = empire.lexicon.uses(letter);
-            return run(law) != 0;
+            return run(text, law) != 0;
         }
 
         int price(int word) {
@@ -1428,7 +1426,8 @@ public final class LettersOnStrike {
             if (!lexicon.isWord(word)) {
                 return 0;
             }
-            if (!rules(PRICE)) {
+            Text text = ruling(PRICE);
+            if (text == null) {
                 return lexicon.length[word] + 1;
             }
             int signs = 0;
@@ -1439,7 +1438,7 @@ public final class LettersOnStrike {
             named[LENGTH] = lexicon.length[word];
             named[SENSE] = lexicon.sense[word];
             named[SIGNS] = signs;
-            return Math.max(0, Math.min(TOP_PRICE, run(PRICE)));
+            return Math.max(0, Math.min(TOP_PRICE, run(text, PRICE)));
         }
 
         /** Whether a contract binds, if this letter were out, too (NONE: as it is). */
@@ -1452,14 +1451,15 @@ public final class LettersOnStrike {
                 missing |= standing.sign[also] == NONE ? 1 << also : 0;
             }
             int broken = broken(contract, missing);
-            if (!rules(BINDS)) {
+            Text text = ruling(BINDS);
+            if (text == null) {
                 return broken == 0;
             }
             nameForAll(outs);
             named[BROKEN] = broken;
             named[MANY] = empire.contracts.words[contract];
             named[DAYS] = standing.day - empire.contracts.day[contract];
-            return run(BINDS) != 0;
+            return run(text, BINDS) != 0;
         }
 
         int broken(int contract, int missing) {
@@ -1485,9 +1485,11 @@ public final class LettersOnStrike {
             return NONE;
         }
 
-        private boolean rules(int law) {
+        /** The ruling text, if it has this law. */
+        private Text ruling(int law) {
             int ruling = empire.ruling;
-            return ruling >= 0 && ruling < texts.length && texts[ruling].has(law);
+            boolean rules = ruling >= 0 && ruling < texts.length && texts[ruling].has(law);
+            return rules ? texts[ruling] : null;
         }
 
         private void nameForAll(int outs) {
@@ -1495,44 +1497,32 @@ public final class LettersOnStrike {
             named[OUTS] = outs;
         }
 
-        private int run(int law) {
-            if (!rules(law)) {
-                return 0;
-            }
-            Text text = texts[empire.ruling];
+        private int run(Text text, int law) {
             int top = 0;
             for (int i = text.lawFrom[law]; i < text.lawEnd[law]; i++) {
                 int c = text.code[i];
-                if (c >= Text.OPERATION) {
-                    top = operate(c, top);
-                } else if (top < stack.length) {
-                    stack[top] = c >= Text.NAME ? named[c - Text.NAME] : c;
-                    top++;
+                if (c < Text.OPERATION) {
+                    if (top < stack.length) {
+                        stack[top] = c >= Text.NAME ? named[c - Text.NAME] : c;
+                        top++;
+                    }
+                } else if (c == NOT || c == NEGATIVE) {
+                    if (top > 0) {
+                        stack[top - 1] = c == NOT ? 1 - stack[top - 1] : -stack[top - 1];
+                    }
+                } else if (top > 1) {
+                    stack[top - 2] = limited(outcome(c, stack[top - 2], stack[top - 1]));
+                    top--;
                 }
             }
             return top > 0 ? stack[top - 1] : 0;
         }
 
-        /** Puts the outcome in the place of the operands; how high the stack is then. */
-        private int operate(int operation, int top) {
-            if (operation == NOT || operation == NEGATIVE) {
-                if (top > 0) {
-                    stack[top - 1] = operation == NOT ? 1 - stack[top - 1] : -stack[top - 1];
-                }
-                return top;
-            }
-            if (top < 2) {
-                return top;
-            }
-            stack[top - 2] = outcome(operation, stack[top - 2], stack[top - 1]);
-            return top - 1;
-        }
-
-        private static int outcome(int operation, int a, int b) {
+        private static long outcome(int operation, long a, long b) {
             switch (operation) {
-                case PLUS: return limited((long) a + b);
-                case MINUS: return limited((long) a - b);
-                case TIMES: return limited((long) a * b);
+                case PLUS: return a + b;
+                case MINUS: return a - b;
+                case TIMES: return a * b;
                 case PART: return b == 0 ? 0 : a / b;
                 case LESS: return a < b ? 1 : 0;
                 case AT_MOST: return a <= b ? 1 : 0;
@@ -1546,7 +1536,7 @@ public final class LettersOnStrike {
         }
 
         private static int limited(long n) {
-            return (int) Math.max(-LIMIT, Math.min(LIMIT, n));
+            return n > LIMIT ? LIMIT : n < -LIMIT ? -LIMIT : (int) n;
         }
     }
 
@@ -1564,15 +1554,20 @@ public final class LettersOnStrike {
             this.judge = judge;
         }
 
-        void passMornings(int n) {
-            for (int i = 0; i < n; i++) {
-                empire.history.keep(standing);
-                dawn();
+        /** So many mornings as there are ahead of the last day; how many that is. */
+        int passMornings(int n) {
+            int coming = Math.min(n, LAST_DAY - standing.day);
+            for (int i = 0; i < coming; i++) {
+                dawn(true);
             }
+            return coming;
         }
 
         /** A morning: who moves is judged for all ahead of any move. */
-        private void dawn() {
+        private void dawn(boolean step) {
+            if (step) {
+                empire.history.keep(standing);
+            }
             int moving = 0;
             for (int letter = 0; letter < ALPHABET; letter++) {
                 moving |= judge.moves(letter) ? 1 << letter : 0;
@@ -1668,7 +1663,7 @@ public final class LettersOnStrike {
                     break;
                 default:
                     if (standing.day < LAST_DAY) {
-                        dawn();
+                        dawn(false);
                     }
             }
         }
@@ -1705,9 +1700,7 @@ public final class LettersOnStrike {
                 case Tape.CONTRACT:
                     return conclude(number) != NONE;
                 case Tape.MORNING:
-                    int n = Math.min(number, LAST_DAY - standing.day);
-                    passMornings(n);
-                    return n == number;
+                    return passMornings(number) == number;
                 default:
                     return false;
             }
