@@ -661,6 +661,9 @@ public final class PromisesTest {
         due("30: party 4", x.core(6, 4), NONE);
         due("30: party -1", x.core(6, -1), NONE);
         due("28: none any more", x.party(NONE), 0);
+        LettersOnStrike y = fresh();
+        y.party(1);
+        due("30: nothing is enough for nothing", y.core(0, 0), 0);
         due("28: how many", x.about(8), 0);
         due("28: one", x.party(1), 1);
         due("30: one has all", x.core(30, 0), 30);
@@ -681,6 +684,8 @@ public final class PromisesTest {
         due("31: empty", x.game(1, 0, false), -2);
         due("31: eleven", x.game(1, (1 << 11) - 1, false), -2);
         due("31: above", x.game(1, 1 << 26, false), -2);
+        due("31: ten", x.game(1, 1023 << 16, false), 1);
+        due("31: b, then eight more are no matter, then f is left", x.game(0, 1023 << 1, true), 1);
         x.strike(Due.set("ea"));
         due("31: as it is is no matter", x.game(1, Due.set("ez"), false), 1);
     }
