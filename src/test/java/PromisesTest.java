@@ -390,6 +390,8 @@ public final class PromisesTest {
         due("16: told already", playedAll(fresh(), "word a means 1;word a means 2;"), 1);
         due("16: nine sayings", playedAll(fresh(), "say 1;".repeat(9)), 8);
         due("16: eleven contracts", playedAll(fresh(), "word a means 1;say 1;" + "contract 0;".repeat(11)), 12);
+        due("16: one of two is raised", playedAll(fresh(), "raise b by 99;raise ab by 1;"), NONE);
+        due("16: one of two is signed", playedAll(fresh(), "sign b as 1;sign ab as 1;"), NONE);
         LettersOnStrike x = fresh();
         due("16: a step each", playedAll(x, "raise cab by 5;sign ab as 1;strike abc;"), NONE);
         due("16: steps", x.about(6), 6);
@@ -421,6 +423,18 @@ public final class PromisesTest {
         due("18: back", x.undo(), 0);
         due("18: X", x.about(3), 17);
         due("18: day", x.about(2), 0);
+        x.morning(60);
+        for (int i = 0; i < 50; i++) {
+            x.year(i, 40);
+        }
+        for (int i = 0; i < 99 && x.about(2) < 990; i++) {
+            x.morning(9);
+        }
+        x.comeBack((1 << 26) - 1);
+        x.by(Due.text(x, "joins 1=1;returns 1=1;"));
+        x.morning(999 - x.about(2));
+        int out = x.about(11);
+        yearOnTheLastDay(x, out);
         LettersOnStrike y = fresh();
         y.year(3, 1);
         // X 32: letter 6; then 6849, mod 4 is 1: g goes out; then 6849 * 211 + 97 = 1445236, rest 28703.
@@ -428,6 +442,24 @@ public final class PromisesTest {
         due("17: X", y.about(3), 28703);
         y.year(3, 1);
         due("17: g comes back", y.about(7), 0);
+    }
+
+    /** On the last day a year that drew a morning leaves all as it was. */
+    private static void yearOnTheLastDay(LettersOnStrike x, int out) {
+        due("17: day 999", x.about(2), 999);
+        int drawn = 0;
+        for (int seed = 0; seed < 20; seed++) {
+            int next = ((seed * 5 + 17) * 211 + 97) % 30139;
+            if (next % 4 == 3) {
+                int since = x.of(0, 1);
+                due("17: nothing comes", x.year(seed, 1), out);
+                due("17: the day stays", x.about(2), 999);
+                due("17: since stays", x.of(0, 1), since);
+                due("17: X is drawn all the same", x.about(3), (next * 211 + 97) % 30139);
+                drawn++;
+            }
+        }
+        due("17: mornings were drawn", drawn > 0, true);
     }
 
     private static void undoes() {
@@ -615,6 +647,17 @@ public final class PromisesTest {
         due("27: e lower", x.power(1, group, 4, true), 3);
         due("27: m upper", x.power(1, group, 12, false), 1);
         due("27: m lower", x.power(1, group, 12, true), 6);
+        String neutral = "";
+        for (char c : "cghijknpq".toCharArray()) {
+            neutral += c;
+            int some = Due.set(neutral + "a");
+            due("27: a has all", x.power(0, some, 0, false), 1);
+            due("27: of all", x.power(0, some, 0, true), 1);
+            due("27: others have none", x.power(0, some, 2, false), 0);
+        }
+        // l ahead of f (1 of 2), but not ahead of all of f, b, r, d (1 of 5).
+        due("27: l, f and b, r, d of ten", x.power(0, Due.set("lfbrdcghij"), 11, true), 10);
+        due("27: l of those", x.power(0, Due.set("lfbrdcghij"), 11, false), 3);
         due("27: not in the group", x.power(1, group, 0, false), NONE);
         due("27: empty", x.power(1, 0, 0, false), NONE);
         due("27: eleven", x.power(1, (1 << 11) - 1, 0, false), NONE);
@@ -728,6 +771,8 @@ public final class PromisesTest {
         due("33: fourth", x.settlement(Due.set("tsm"), 3), NONE);
         due("33: z", x.settlement(Due.set("z"), NONE), NONE);
         due("33: z's word", x.settlement(Due.set("z"), 0), NONE);
+        due("33: four words", x.settlement(Due.set("tsmf"), NONE), 13);
+        due("33: the fourth", x.settlement(Due.set("tsmf"), 3), 3);
         due("33: five words", x.settlement(Due.set("tsmfd"), NONE), NONE);
         due("33: empty", x.settlement(0, NONE), NONE);
         due("33: above", x.settlement(1 << 26, NONE), NONE);
