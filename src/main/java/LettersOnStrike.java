@@ -224,10 +224,6 @@ public final class LettersOnStrike {
         if (!lexicon.isWord(word) || !lexicon.isWord(other) || word == other) {
             return false;
         }
-        // A word that can't be written is never seen, so it looks like no other.
-        if (((lexicon.mask[word] | lexicon.mask[other]) & now.standing.missing()) != 0) {
-            return false;
-        }
         return puzzles.alikeNow(word, other);
     }
 
@@ -1907,9 +1903,11 @@ public final class LettersOnStrike {
         }
 
         boolean alikeNow(int word, int other) {
+            Standing standing = empire.standing;
             for (int letter = 0; letter < ALPHABET; letter++) {
-                look[letter] = empire.standing.isOut(letter) && empire.standing.sign[letter] != NONE
-                    ? empire.standing.sign[letter] : letter + 10;
+                // Nothing stands in for a letter that is out without a sign: it stays unlike all others.
+                boolean replaced = standing.isOut(letter) && standing.sign[letter] != NONE;
+                look[letter] = replaced ? standing.sign[letter] : letter + 10;
             }
             return alike(word, other);
         }

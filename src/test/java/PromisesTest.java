@@ -547,9 +547,44 @@ public final class PromisesTest {
         due("22: none such", x.mistaken(0, 5), false);
         due("22: -1", x.mistaken(-1, 0), false);
         x.strike(Due.set("e"));
-        due("22: neither can be written", x.mistaken(0, 1), false);
+        due("22: neither can be written", x.ofWord(0, 3) + x.ofWord(1, 3), 0);
+        due("22: they look alike all the same", x.mistaken(0, 1), true);
+        due("22: the other way, too", x.mistaken(1, 0), true);
         x.sign(4, 5);
         due("22: both can", x.mistaken(0, 1), true);
+        x.sign(18, NONE);
+        due("22: t as 5, s as itself", x.mistaken(0, 1), false);
+        x.sign(19, NONE);
+        due("22: each as itself", x.mistaken(0, 1), false);
+        x.sign(18, 0);
+        x.sign(19, 0);
+        due("22: both as 0", x.mistaken(0, 1), true);
+        x.comeBack(Due.set("t"));
+        due("22: t is back", x.mistaken(0, 1), false);
+        mistakesOfUnwritten();
+    }
+
+    /** Whether a word can be written doesn't count: only how the two look, place by place. */
+    private static void mistakesOfUnwritten() {
+        LettersOnStrike x = new LettersOnStrike();
+        Due.word(x, "ax", 0);
+        Due.word(x, "bx", 1);
+        Due.word(x, "ay", 2);
+        Due.word(x, "axx", 3);
+        x.strike(Due.set("abxy"));
+        x.sign(0, 3);
+        x.sign(1, 3);
+        due("22: x is out without a sign in both", x.mistaken(0, 1), true);
+        due("22: x and y are out without signs", x.mistaken(0, 2), false);
+        due("22: bx and ay", x.mistaken(1, 2), false);
+        due("22: one is longer", x.mistaken(0, 3), false);
+        x.sign(23, 3);
+        x.sign(24, 3);
+        due("22: all as 3", x.mistaken(1, 2), true);
+        due("22: all as 3, one is longer", x.mistaken(0, 3), false);
+        x.sign(1, NONE);
+        due("22: bx has lost a sign", x.mistaken(0, 1), false);
+        due("22: ax and ay", x.mistaken(0, 2), true);
     }
 
     private static void howSaid() {

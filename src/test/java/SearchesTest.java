@@ -1,7 +1,7 @@
 import java.util.ArrayList;
 import java.util.List;
 
-/** The searches (promises 23, 25 to 37) on drawn empires, each against the slowest way to find it. */
+/** The searches (promises 22, 23, 25 to 37) on drawn empires, each against the slowest way to find it. */
 public final class SearchesTest {
     private static final int NONE = LettersOnStrike.NONE;
     private static final int LETTERS = 9;
@@ -408,9 +408,38 @@ public final class SearchesTest {
         Due.due("spells' end", x.spells(letter, spells.size()), -2);
     }
 
+    /** Which words look alike, written or not; what comes behind it is to be the same with letters out. */
+    private void alikes() {
+        int out = draw(1 << LETTERS) | draw(1 << LETTERS);
+        x.strike(out);
+        int[] sign = new int[LETTERS];
+        for (int letter = 0; letter < LETTERS; letter++) {
+            sign[letter] = draw(4) - 1;
+            x.sign(letter, sign[letter]);
+        }
+        List<String> looks = new ArrayList<>();
+        for (String word : words) {
+            StringBuilder look = new StringBuilder();
+            for (char c : word.toCharArray()) {
+                boolean replaced = (out >> (c - 'a') & 1) != 0 && sign[c - 'a'] != NONE;
+                look.append(replaced ? (char) ('0' + sign[c - 'a']) : c);
+            }
+            looks.add(look.toString());
+        }
+        for (int w = 0; w < words.size(); w++) {
+            for (int other = 0; other < words.size(); other++) {
+                Due.due("mistaken " + words.get(w) + " " + words.get(other) + ", looking like " + looks.get(w) + " "
+                    + looks.get(other), x.mistaken(w, other), w != other && looks.get(w).equals(looks.get(other)));
+            }
+        }
+    }
+
     public static void main(String[] args) {
         for (int round = 0; round < 400; round++) {
             SearchesTest test = new SearchesTest();
+            if (round % 2 == 0) {
+                test.alikes();
+            }
             test.said();
             test.stops();
             test.spared();
