@@ -241,6 +241,8 @@ public final class ModelTest {
     }
 
     private final LettersOnStrike x = new LettersOnStrike();
+    /** Calls so far, the looks aside: nothing is promised behind the 512th of all. */
+    private int calls;
     private Whole all = new Whole();
     private Whole image = new Whole();
 
@@ -558,6 +560,7 @@ public final class ModelTest {
         int set = draw(1 << 7) & draw(1 << 7);
         int l = draw(8);
         int n = draw(12);
+        calls++;
         switch (draw(16)) {
             case 0 -> Due.due("strike", x.strike(set), orNone(call(set, true)));
             case 1 -> Due.due("comeBack", x.comeBack(set), orNone(call(set, false)));
@@ -605,6 +608,7 @@ public final class ModelTest {
     }
 
     private void tell() {
+        calls += 3;
         String letters = letters();
         int sense = draw(4);
         Due.due("word " + letters, Due.word(x, letters, sense), word(letters, sense));
@@ -621,6 +625,7 @@ public final class ModelTest {
         int n = all.texts.size();
         if (n < 4) {
             Script script = script();
+            calls += 5 + script.text.length() / 20;
             Due.due("text '" + script.text + "'", Due.text(x, script.text), n);
             all.texts.add(script);
         }
@@ -648,7 +653,8 @@ public final class ModelTest {
         }
         Due.due("out", x.about(7), out);
         Due.due("outs", x.about(11), now().out.size());
-        for (int l = 0; l < 26; l++) {
+        for (int i = 0; i < 6; i++) {
+            int l = draw(i < 4 ? 7 : 26);
             Due.due("wage", x.of(l, 0), wage(l));
             Due.due("since", x.of(l, 1), since(l));
             Due.due("is out", x.of(l, 2), out(l) ? 1 : 0);
@@ -662,7 +668,8 @@ public final class ModelTest {
     }
 
     private void lookAtWords() {
-        for (int w = 0; w < all.words.size(); w++) {
+        for (int round = 0; round < 3 && !all.words.isEmpty(); round++) {
+            int w = draw(all.words.size());
             Due.due("can", x.ofWord(w, 3), can(all.words.get(w), NONE) ? 1 : 0);
             Due.due("sense", x.ofWord(w, 1), all.senses.get(w));
             for (int i = 0; i < all.words.get(w).length(); i++) {
@@ -671,7 +678,8 @@ public final class ModelTest {
             int other = draw(all.words.size());
             Due.due("mistaken", x.mistaken(w, other), w != other && looks(w).equals(looks(other)));
         }
-        for (int s = 0; s < all.sayings.size(); s++) {
+        for (int round = 0; round < 3 && !all.sayings.isEmpty(); round++) {
+            int s = draw(all.sayings.size());
             Due.due("dear", x.dear(s), dear(s));
             int[] said = said(s);
             for (int i = 0; i < all.sayings.get(s).length; i++) {
@@ -691,7 +699,8 @@ public final class ModelTest {
 
     private void lookAtContracts() {
         Due.due("contracts", x.signed(NONE, 0), now().contracts.size());
-        for (int i = 0; i < now().contracts.size(); i++) {
+        for (int round = 0; round < 3 && !now().contracts.isEmpty(); round++) {
+            int i = draw(now().contracts.size());
             int[] row = now().contracts.get(i);
             Due.due("its saying", x.signed(i, 0), row[0]);
             Due.due("its day", x.signed(i, 1), row[1]);
@@ -706,18 +715,17 @@ public final class ModelTest {
     }
 
     public static void main(String[] args) {
-        for (int run = 0; run < 300; run++) {
+        for (int run = 0; run < 2000; run++) {
             ModelTest test = new ModelTest();
             for (int i = 0; i < 5; i++) {
                 test.tell();
             }
-            for (int i = 0; i < 100; i++) {
-                test.act();
-                if (i % 5 == 0) {
-                    test.look();
+            for (int some = 60; some <= 180; some += 60) {
+                while (test.calls < some) {
+                    test.act();
                 }
+                test.look();
             }
-            test.look();
         }
         Due.end("ModelTest");
     }
