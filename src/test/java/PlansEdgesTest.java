@@ -368,6 +368,22 @@ public final class PlansEdgesTest {
         is("of 3: the first", x.core(3, 0), 2);
         is("of 3: the second", x.core(3, 1), 0);
         is("of 3: the third", x.core(3, 2), 1);
+        LettersOnStrike y = told("a 1 b 2");
+        y.saying(11);
+        y.saying(11);
+        y.party(set("a"));
+        is("one party: 1 is too little", y.core(1, 0), NONE);
+        is("one party: 2", y.core(2, 0), 2);
+        y.party(NONE);
+        y.party(set("z"));
+        y.party(set("a"));
+        is("the first has none", y.core(2, 0), 0);
+        is("the second has all", y.core(2, 1), 2);
+        is("1 is too little for the second", y.core(1, 1), NONE);
+        y.saying(13);
+        is("one that can't be said at all asks for 1 by each party", y.core(3, 0), NONE);
+        is("any party is some of them, nobody is none: the first", y.core(4, 0), 1);
+        is("the second", y.core(4, 1), 3);
     }
 
     // ---- game: promise 31

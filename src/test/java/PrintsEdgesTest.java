@@ -147,6 +147,8 @@ public final class PrintsEdgesTest {
         x.printed(0, 10, true);
         is("nothing goes with that", x.spells(0, NONE), 0);
         is("nor for c", x.spells(2, NONE), 0);
+        is("the first of none", x.spells(0, 0), -2);
+        is("the first of none for c", x.spells(2, 0), -2);
     }
 
     private static void otherLettersAsOneLikes() {

@@ -575,6 +575,9 @@ public final class TextsEdgesTest {
     private static void eachLetterCountsOnce() {
         says("II: LETTERS: 8 at most (each of them counts once, but in a WORD)");
         good("word aaaaaaaa means 1;");
+        good("strike abcdefgha;");
+        good("tie aaaaaaaaa to hgfedcbabcdefgh;");
+        fault(7, "strike ^abcdefghai;");
         fault(7, "word ^aaaaaaaaa means 1;");
         LettersOnStrike x = Edges.fresh();
         is("played", played(x, "word aabab means 1;raise aa by 5;sign bb as 2;strike ccac;tie dd to eede;"), NONE);
@@ -868,6 +871,9 @@ public final class TextsEdgesTest {
         is("raise at 99", played(Edges.fresh(), "raise ab by 98;raise abc by 1;raise ab by 99;"), 2);
         is("sign", played(Edges.fresh(), "sign ab as 1;sign abc as 1;sign ac as 1;"), 2);
         is("sign as none", played(Edges.fresh(), "sign a as 0;sign ab as none;sign ab as none;"), 2);
+        is("the first of two is raised", played(Edges.fresh(), "raise b by 99;raise ab by 98;raise ab by 1;"), 2);
+        is("the first of two has another sign", played(Edges.fresh(), "sign b as 1;sign ab as 1;sign ab as 1;"), 2);
+        is("the last of two has another sign", played(Edges.fresh(), "sign a as 1;sign ab as 1;sign ab as 1;"), 2);
         LettersOnStrike x = Edges.fresh();
         is("one of two is at 99", played(x, "raise a by 99;raise ab by 98;raise b by 1;"), 2);
         is("wage of a: 99 at most", x.of(0, 0), 99);
@@ -934,6 +940,8 @@ public final class TextsEdgesTest {
         is("c", x.of(2, 4), set("ab"));
         is("one of many is new", played(x, "tie abc to abcz;tie z to abcz;tie cz to a;"), 2);
         is("itself alone", played(x, "tie z to z;"), 0);
+        is("the first of two is new", played(Edges.fresh(), "tie b to c;tie ab to c;tie ab to c;"), 2);
+        is("the last of two is new", played(Edges.fresh(), "tie a to c;tie ab to c;tie ab to c;"), 2);
         is("no step", x.about(6), 0);
     }
 

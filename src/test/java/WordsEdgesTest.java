@@ -594,6 +594,14 @@ public final class WordsEdgesTest {
         is("b is out with its sign: z", x.signed(0, 5), 25);
         x.sign(25, 3);
         is("none", x.signed(0, 5), NONE);
+        LettersOnStrike signs = Edges.fresh();
+        Due.word(signs, "ac", 1);
+        signs.saying(11);
+        signs.contract(0);
+        signs.sign(0, 0);
+        is("a has a sign: c", signs.signed(0, 5), 2);
+        signs.sign(2, 0);
+        is("all have signs: none", signs.signed(0, 5), NONE);
         x.by(Due.text(x, "binds outs<2;"));
         is("any other one", x.signed(0, 5), 0);
         x.strike(set("a"));
