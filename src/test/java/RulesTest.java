@@ -67,6 +67,42 @@ public final class RulesTest {
         due("a method without an end", start < 0);
     }
 
+    /** All calls of a run live in one room, so what is made is made once: in a constructor, or where a field stands. */
+    private static void allocations(List<String> lines) {
+        boolean inConstructor = false;
+        String end = "";
+        for (String line : lines) {
+            if (line.matches(" {4,8}(public )?[A-Z]\\w*\\(.*\\) \\{")) {
+                inConstructor = true;
+                end = line.replaceAll("\\S.*", "}");
+            } else if (line.equals(end)) {
+                inConstructor = false;
+            }
+            if (line.matches(".*\\bnew\\b.*")) {
+                boolean field = line.matches(" {4,8}(private |static )*final [\\w\\[\\]]+ \\w+ = new .*;");
+                due("made by a call: " + line, inConstructor || field);
+            }
+        }
+    }
+
+    /** Some twelve classes, some twenty fields each beside the constants. */
+    private static void classesAndFields(List<String> lines) {
+        int classes = 0;
+        int fields = 0;
+        String margin = "    ";
+        for (String line : lines) {
+            if (line.contains("class ")) {
+                classes++;
+                fields = 0;
+                margin = classes == 1 ? "    " : "        ";
+            } else if (line.matches(margin + "(private )?(final )?[\\w\\[\\]]+ \\w+( = .*)?;")) {
+                fields++;
+                due("a class with " + fields + " fields: " + line, fields <= 20);
+            }
+        }
+        due(classes + " classes", classes <= 13);
+    }
+
     private static void namesOfTheFace(String code) {
         Matcher face = Pattern.compile("\n {4}public \\w+ (\\w+)\\(").matcher(code);
         int n = 0;
@@ -86,6 +122,8 @@ public final class RulesTest {
         words(code);
         members(List.of(code.split("\n")));
         methods(List.of(code.split("\n")));
+        allocations(List.of(code.split("\n")));
+        classesAndFields(List.of(code.split("\n")));
         namesOfTheFace(code);
         Due.end("RulesTest");
     }
